@@ -23,6 +23,7 @@ public final class InstructionsTest {
         callsThatOverlap();
         leave();
         halt();
+        operandsUpToTheLastByte();
         CHECK.done();
     }
 
@@ -229,5 +230,24 @@ public final class InstructionsTest {
     private static void halt() {
         does(bench(30, 255), "HALT", 100, 30, 20, 10, 300, 1, 2, 1);
         does(bench(-9, 255), "HALT with SP off", 100, -9, 20, 10, 0, 1, 2, 1);
+    }
+
+    private static void operandsUpToTheLastByte() {
+        does(ending(16, 7).expect(31, 7), "last PUSH", 512, 31, 20, 10, 7, 0, 4, 1);
+        does(ending(21, 2).expect(31, 220), "last LOAD", 512, 31, 20, 10, 220, 0, 6, 1);
+        does(ending(54, 2).expect(22, 300), "last STORE", 512, 29, 20, 10, 290, 0, 7, 1);
+        does(ending(196, 21, 0, 2).expect(31, 220), "last WIDE LOAD", 512, 31, 20, 10, 220, 0, 10, 1);
+        does(ending(196, 54, 0, 2).expect(22, 300), "last WIDE STORE", 512, 29, 20, 10, 290, 0, 11, 1);
+        does(ending(19, 0, 11).expect(31, 210), "last CONSTANT", 512, 31, 20, 10, 210, 0, 8, 1);
+        does(ending(132, 2, 5).expect(22, 225), "last INCREASE", 512, 30, 20, 10, 300, 0, 7, 1);
+        does(ending(167, 255, 255), "last GOTO", 508, 30, 20, 10, 300, 0, 7, 1);
+        does(ending(159, 0, 1).words(29, 300), "last IF LIKE", 510, 28, 20, 10, 280, 0, 13, 1);
+        does(ending(182, 0, 3).words(13, 60).code(60, 0, 2, 0, 4).expect(29, 35, 35, 512, 36, 20),
+            "last CALL", 64, 36, 29, 10, 29, 0, 23, 1);
+    }
+
+    private static Bench ending(int... bytes) {
+        int at = 512 - bytes.length;
+        return bench(30).code(at, bytes).boot(at, 30, 20, 10);
     }
 }

@@ -144,6 +144,8 @@ public final class StopsTest {
         callFaults("link behind the last word", 30, 0, 1, 0, 225);
         callFaults("second word of the link behind the last word", 30, 0, 1, 0, 224);
         callFaults("link far behind the last word", 30, 0, 1, 1, 0);
+        callFaults("n without sign", 30, 255, 254, 0, 60);
+        callFaults("k without sign", 30, 0, 1, 255, 254);
         callFaults("SP 255", 255, 0, 1, 0, 0);
         callFaults("SP 254", 254, 0, 1, 0, 0);
         callFaults("SP far off", MAX, 0, 1, 0, 0);
