@@ -36,11 +36,15 @@ final class Check {
     }
 
     static String registers(StackComputer x) {
+        return Arrays.toString(allRegisters(x));
+    }
+
+    static int[] allRegisters(StackComputer x) {
         int[] all = new int[8];
         for (int i = 0; i < all.length; i++) {
             all[i] = x.register(i);
         }
-        return Arrays.toString(all);
+        return all;
     }
 
     private static String seen(StackComputer x) {

@@ -5,6 +5,8 @@ public final class CodeTest {
         lowestByteComesFirst(check);
         setsFourBytesAtAnyPlace(check);
         setsTheLastBytes(check);
+        takesEveryPlaceThatIsThere(check);
+        keepsEveryByte(check);
         leavesRegistersAlone(check);
         refusesWhatIsNotAllThere(check);
         check.done();
@@ -52,6 +54,33 @@ public final class CodeTest {
         x.boot(511, 0, 0, 0);
         check.same("run", x.run(1), 1);
         check.registers("HALT at 511", x, 511, 0, 0, 0, 0, 1, 2, 1);
+    }
+
+    private static void takesEveryPlaceThatIsThere(Check check) {
+        for (int a = 0; a <= 508; a++) {
+            StackComputer x = new StackComputer();
+            // OR, AND, PUSH 100: each of the four bytes tells itself by what it does.
+            x.code(a, 0x64107E80);
+            x.word(8, 21);
+            x.word(9, 12);
+            x.word(10, 3);
+            x.boot(a, 10, 0, 0);
+            check.same("run of code at " + a, x.run(3), 3);
+            check.registers("code at " + a, x, a + 4, 9, 0, 0, 100, 0, 12, 3);
+            check.same("OR and AND at " + a, x.look(8), 5);
+        }
+    }
+
+    /** Each value of a byte, in each of the four places. */
+    private static void keepsEveryByte(Check check) {
+        for (int v = 0; v < 256; v++) {
+            for (int i = 0; i < 4; i++) {
+                StackComputer x = new StackComputer();
+                x.code(203 - i, 0x10101010);
+                x.code(204 - i, 0x10101010 & ~(255 << 8 * i) | v << 8 * i);
+                pushes(check, x, 203, (byte) v);
+            }
+        }
     }
 
     private static void leavesRegistersAlone(Check check) {

@@ -34,9 +34,7 @@ public final class InstructionsTest {
     }
 
     private static void does(Bench b, String what, int... dueRegisters) {
-        CHECK.same("run of " + what, b.x.run(1), 1);
-        CHECK.registers(what, b.x, dueRegisters);
-        b.checkWords(CHECK, what);
+        b.does(CHECK, what, dueRegisters);
     }
 
     private static void nop() {

@@ -24,11 +24,7 @@ public final class StopsTest {
     }
 
     private static void stops(Bench b, String what, int due, int pc, int sp, int lv, int cpp) {
-        b.boot(pc, sp, lv, cpp);
-        int top = b.x.register(4);
-        CHECK.same("run of " + what, b.x.run(7), 0);
-        CHECK.registers(what, b.x, pc, sp, lv, cpp, top, due, 0, 0);
-        b.checkWords(CHECK, what);
+        b.boot(pc, sp, lv, cpp).stops(CHECK, what, due);
     }
 
     private static boolean isOpcode(int opcode) {

@@ -3,6 +3,8 @@ public final class WordTest {
     public static void main(String[] args) {
         Check check = new Check();
         setsOneWord(check);
+        takesEveryPlaceThatIsThere(check);
+        takesEveryValue(check);
         leavesRegistersAlone(check);
         refusesWhatIsNotThere(check);
         check.done();
@@ -14,6 +16,25 @@ public final class WordTest {
         b.checkWords(check, "setting words");
         b.words(100, 8, 255, 0);
         b.checkWords(check, "setting words again");
+    }
+
+    private static void takesEveryPlaceThatIsThere(Check check) {
+        for (int a = 0; a < 256; a++) {
+            Bench b = new Bench().words(a, 7919 - a);
+            b.checkWords(check, "word(" + a + ", " + (7919 - a) + ")");
+            check.registers("word(" + a + ", " + (7919 - a) + ")", b.x, 0, 0, 0, 0, 0, 0, 0, 0);
+        }
+    }
+
+    private static void takesEveryValue(Check check) {
+        for (int v : new int[] {0, 1, -1, 127, 128, 255, 256, -128, -129, 32767, 32768, 65535, 65536, Integer.MAX_VALUE,
+            Integer.MIN_VALUE}) {
+            StackComputer x = new StackComputer();
+            x.word(9, v);
+            check.same("look at " + v, x.look(9), v);
+            x.boot(0, 9, 0, 0);
+            check.same("TOP at " + v, x.register(4), v);
+        }
     }
 
     private static void leavesRegistersAlone(Check check) {
